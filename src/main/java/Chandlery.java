@@ -319,7 +319,6 @@ public final class Chandlery {
             return refused(OUT_OF_BOUNDS);
         }
         into.swallow(from);
-        into.cureSince = now.day;
         return done(into.weight);
     }
 
@@ -828,7 +827,8 @@ public final class Chandlery {
         int cutOn = NONE;
         int cure = 0;
         // One day stands for cutting, boiling and weighing: the DAY never goes down, so the latest
-        // of these acts is also the last that was done.
+        // of these acts is also the last that was done. with() need not set it, as what it fills
+        // is CUT later.
         int cureSince = 0;
         int width = 0;
         int coinsGot = 0;
@@ -1147,7 +1147,7 @@ public final class Chandlery {
             int lightest = MOST_WEIGHT + 1;
             for (int i = 0; i < batches.size(); i++) {
                 Batch first = batches.at(i);
-                if (first == null || !first.isSoap() || first.state != MIXED) {
+                if (first == null || first.state != MIXED) {
                     continue;
                 }
                 for (int j = i + 1; j < batches.size(); j++) {

@@ -496,6 +496,9 @@ public final class BatchTest {
         Due.is("a FAT with a NEED of 0", x.more(soap, 2), -1);
         Due.is("an empty one", x.more(soap, 0), 1);
         Due.is("an empty one", x.more(soap, 3), 1);
+        x.row(3, 0, 1);
+        Due.is("an empty one, by NEED 1", x.more(soap, 3), 1);
+        x.row(3, 0, 7);
         x.weigh(soap, 60, 0.9f);
         Due.is("45,000 wants 50,000", x.more(soap, 0), 50);
         Due.is("45,000 wants 50,000 by 7", x.more(soap, 3), 7143);
@@ -573,6 +576,11 @@ public final class BatchTest {
         x.mix(lyeAlone);
         Due.is("LYE alone puts the lightest together", x.save(0, 0), light);
         Due.is("LYE alone puts the lightest together", x.save(0, 1), lyeAlone);
+        int sharper = Shop.open(x, Shop.SOAP, 0.1f);
+        x.weigh(sharper, 60, 0.2f);
+        x.mix(sharper);
+        Due.is("LYE in both is too much", x.save(0, 0), lyeAlone - 1);
+        Due.is("LYE in both is too much", x.save(0, 1), lyeAlone);
         Due.refused("day(0)", x, x.day(0), 3);
         x.save(0, 0);
         x.save(99, 0);

@@ -134,6 +134,11 @@ public final class KeepTest {
         x.back();
         same("back() again", everything(x), before);
         Due.refused("the SCALE is broken again", x, x.spill(0, 1f), 4);
+        Due.done("a ROW that was torn is there again", x, x.tear(1));
+        x.image();
+        x.scale(true);
+        x.back();
+        Due.denied("a ROW that was torn ahead is missing", x, x.tear(1), 5);
     }
 
     private static void same(String what, String got, String want) {

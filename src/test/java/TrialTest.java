@@ -205,6 +205,7 @@ public final class TrialTest {
             Due.is("11 by 4, piece " + k, x.piece(candle, k), pieces[k]);
         }
         Due.is("the lightest is 2", x.burns(candle, 0), 2);
+        Due.is("HOURS of the same", x.hours(0, 1, 2), 2);
         x.sell(candle, 1, 1);
         Due.is("that is sold", x.burns(candle, 0), 3);
         int other = Shop.cut(x, Shop.CANDLE, 0.7f, 5, 1);
