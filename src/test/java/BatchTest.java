@@ -30,7 +30,7 @@ public final class BatchTest {
     }
 
     private static void promise12Batch() {
-        Chandlery x = new Chandlery();
+        Counted x = new Counted();
         Due.refused("batch without a RECIPE", x, x.batch(1, 0), 1);
         x.recipe(7);
         x.recipe(8);
@@ -41,7 +41,7 @@ public final class BatchTest {
         Due.refused("batch(5, 0)", x, x.batch(5, 0), 2);
         Due.is("count(4)", x.count(4), 0);
         for (int i = 1; i <= 400; i++) {
-            Due.done("batch", x, x.batch(i % 5, i % 2), i);
+            Due.is("batch", x.batch(i % 5, i % 2), i);
         }
         Due.refused("a 401st BATCH", x, x.batch(0, 0), 8);
         Due.refused("a 401st BATCH: 2 ahead of 8", x, x.batch(5, 0), 2);
@@ -52,7 +52,7 @@ public final class BatchTest {
     }
 
     private static void promise13Weigh() {
-        Chandlery x = Shop.full();
+        Counted x = Shop.full();
         Due.refused("weigh without a BATCH", x, x.weigh(1, 0, 1f), 1);
         x.batch(Shop.SOAP, 0);
         x.batch(Shop.CANDLE, 0);
@@ -88,7 +88,7 @@ public final class BatchTest {
     }
 
     private static void promise13States() {
-        Chandlery x = Shop.full();
+        Counted x = Shop.full();
         for (int kind = 0; kind < 5; kind++) {
             int mixed = Shop.mixed(x, kind, 1f);
             Due.refused("weigh into a MIXED " + kind, x, x.weigh(mixed, 0, 1f), 2);
@@ -113,7 +113,7 @@ public final class BatchTest {
     }
 
     private static void promise13Mending() {
-        Chandlery x = Shop.full();
+        Counted x = Shop.full();
         for (int kind = Shop.SOAP; kind <= Shop.TWICE; kind++) {
             int batch = Shop.cutOff(x, kind, 3, 5);
             Due.done("LYE into a CUT SOAP that is OFF", x, x.weigh(batch, 60, 16f), 160);
@@ -132,7 +132,7 @@ public final class BatchTest {
     }
 
     private static void promise13Numbers() {
-        Chandlery x = new Chandlery();
+        Counted x = new Counted();
         x.fat(1);
         x.row(0, 0, 1000);
         x.fat(2);
@@ -171,7 +171,7 @@ public final class BatchTest {
     }
 
     private static void promise14Mix() {
-        Chandlery x = Shop.full();
+        Counted x = Shop.full();
         Due.denied("mix without a BATCH", x, x.mix(1), 1);
         x.batch(Shop.SOAP, 0);
         Due.denied("mix(0)", x, x.mix(0), 1);
@@ -196,7 +196,7 @@ public final class BatchTest {
     }
 
     private static void promise15Mould() {
-        Chandlery x = Shop.full();
+        Counted x = Shop.full();
         Due.refused("mould(-1)", x, x.mould(-1), 1);
         Due.refused("mould(40)", x, x.mould(40), 1);
         Due.refused("mould(MAX)", x, x.mould(Integer.MAX_VALUE), 1);
@@ -216,7 +216,7 @@ public final class BatchTest {
     }
 
     private static void promise16Pour() {
-        Chandlery x = Shop.full();
+        Counted x = Shop.full();
         x.mould(5);
         Due.denied("pour without a BATCH", x, x.pour(1, 5), 1);
         Shop.open(x, Shop.SOAP, 1f);
@@ -244,7 +244,7 @@ public final class BatchTest {
     }
 
     private static void promise17Cut() {
-        Chandlery x = Shop.full();
+        Counted x = Shop.full();
         Due.denied("cut without a BATCH", x, x.cut(1, 1, 1), 1);
         int[] least = {Integer.MIN_VALUE, 0, 0, 1, 1};
         int[] most = {Integer.MAX_VALUE, 400, 400, 200, 200};
@@ -281,7 +281,7 @@ public final class BatchTest {
     }
 
     private static void promise18Boil() {
-        Chandlery x = Shop.full();
+        Counted x = Shop.full();
         Due.refused("boil without a BATCH", x, x.boil(1), 1);
         for (int kind = 0; kind < 5; kind++) {
             int batch = Shop.cut(x, kind, 1f, 2, 30);
@@ -310,7 +310,7 @@ public final class BatchTest {
     }
 
     private static void promise19With() {
-        Chandlery x = Shop.full();
+        Counted x = Shop.full();
         int first = Shop.open(x, Shop.SOAP, 10f);
         x.weigh(first, 60, 1f);
         int second = Shop.open(x, Shop.TWICE, 20f);
@@ -361,7 +361,7 @@ public final class BatchTest {
     }
 
     private static void promise19Bounds() {
-        Chandlery x = Shop.full();
+        Counted x = Shop.full();
         x.lot(0, 100000f, 0, 0);
         Shop.mixed(x, Shop.SOAP, 60000f);
         Shop.mixed(x, Shop.SOAP, 40000.1f);
@@ -378,7 +378,7 @@ public final class BatchTest {
     }
 
     private static void promise20Sell() {
-        Chandlery x = Shop.full();
+        Counted x = Shop.full();
         Due.refused("sell without a BATCH", x, x.sell(1, 1, 1), 1);
         Shop.open(x, Shop.PLAIN, 1f);
         Due.refused("sell(0, ..)", x, x.sell(0, 1, 1), 1);
@@ -418,7 +418,7 @@ public final class BatchTest {
     }
 
     private static void promise20Ready() {
-        Chandlery x = Shop.full();
+        Counted x = Shop.full();
         for (int kind = Shop.CANDLE; kind <= Shop.DIPPED; kind++) {
             Due.done("CANDLES are READY as they are CUT", x, x.sell(Shop.cut(x, kind, 1f, 2, 9), 1, 1), 1);
         }
@@ -445,7 +445,7 @@ public final class BatchTest {
     }
 
     private static void promise27Even() {
-        Chandlery x = Shop.full();
+        Counted x = Shop.full();
         Due.is("even without a BATCH", x.even(1, 0), -1);
         x.batch(Shop.SOAP, 0);
         Due.is("even(0, 0)", x.even(0, 0), -1);
@@ -481,7 +481,7 @@ public final class BatchTest {
     }
 
     private static void promise28More() {
-        Chandlery x = Shop.full();
+        Counted x = Shop.full();
         x.fat(1);
         x.fat(1);
         x.row(3, 0, 7);
@@ -526,7 +526,7 @@ public final class BatchTest {
     }
 
     private static void promise28Bounds() {
-        Chandlery x = Shop.full();
+        Counted x = Shop.full();
         x.recipe(0);
         x.recipe(50);
         x.fat(1);
@@ -547,7 +547,7 @@ public final class BatchTest {
     }
 
     private static void promise29Save() {
-        Chandlery x = Shop.full();
+        Counted x = Shop.full();
         Due.is("save of nothing", x.save(0, 0), -1);
         int sharp = Shop.open(x, Shop.SOAP, 10f);
         x.weigh(sharp, 60, 2f);
@@ -588,7 +588,7 @@ public final class BatchTest {
     }
 
     private static void promise29Ties() {
-        Chandlery x = Shop.full();
+        Counted x = Shop.full();
         x.lot(0, 100000f, 0, 0);
         x.fat(1);
         x.lot(2, 10f, 0, 0);
@@ -624,7 +624,7 @@ public final class BatchTest {
     }
 
     private static void justInBounds() {
-        Chandlery x = Shop.full();
+        Counted x = Shop.full();
         x.lot(0, 100000f, 0, 0);
         Shop.mixed(x, Shop.SOAP, 60000f);
         Shop.mixed(x, Shop.SOAP, 40000.1f);
@@ -638,7 +638,7 @@ public final class BatchTest {
     }
 
     private static void promise30Ready() {
-        Chandlery x = Shop.full();
+        Counted x = Shop.full();
         Due.is("ready without a BATCH", x.ready(1), -1);
         x.day(10);
         for (int kind = 0; kind < 5; kind++) {
@@ -682,7 +682,7 @@ public final class BatchTest {
     }
 
     private static void promise31Piece() {
-        Chandlery x = Shop.full();
+        Counted x = Shop.full();
         Due.is("piece without a BATCH", x.piece(1, 0), -1);
         int candle = Shop.cut(x, Shop.CANDLE, 1f, 3, 1);
         Due.is("piece(0, 0)", x.piece(0, 0), -1);
@@ -721,7 +721,7 @@ public final class BatchTest {
     }
 
     private static void greatPieces() {
-        Chandlery x = Shop.full();
+        Counted x = Shop.full();
         int soap = Shop.cut(x, Shop.TWICE, 100000f, 1, 0);
         Due.is("1,000,000 in one piece", x.piece(soap, 0), 1000000);
         x.day(499);
@@ -729,19 +729,29 @@ public final class BatchTest {
         x.loss(20);
         Shop.wait(x, 29501);
         Due.is("on the last day", x.piece(soap, 0), 0);
+        allPieces();
+    }
+
+    private static void allPieces() {
+        Counted x = new Counted();
+        x.fat(0);
+        x.recipe(0);
         x.lot(0, 99999.9f, 0, 0);
         int plain = Shop.cut(x, Shop.PLAIN, 99999.9f, 500, 0);
-        Due.is("999,999 by 500, the first", x.piece(plain, 0), 1999);
-        Due.is("999,999 by 500, the last", x.piece(plain, 499), 2000);
-        long all = 0;
-        for (int k = 0; k < 500; k++) {
-            all += x.piece(plain, k);
+        int first = x.piece(plain, 0);
+        Due.is("999,999 by 500, the first", first, 1999);
+        int last = first;
+        long all = first;
+        for (int k = 1; k < 500; k++) {
+            last = x.piece(plain, k);
+            all += last;
         }
+        Due.is("999,999 by 500, the last", last, 2000);
         Due.is("all pieces", all, 999999);
     }
 
     private static void promise32Place() {
-        Chandlery x = Shop.full();
+        Counted x = Shop.full();
         Due.is("place(-1)", x.place(-1), -1);
         Due.is("place(40)", x.place(40), -1);
         Due.is("place(MAX)", x.place(Integer.MAX_VALUE), -1);
@@ -761,7 +771,7 @@ public final class BatchTest {
     }
 
     private static void promise33Told() {
-        Chandlery x = Shop.full();
+        Counted x = Shop.full();
         x.recipe(3);
         Due.is("told without a BATCH", x.told(1, 0), -1);
         x.batch(Shop.PLAIN, 0);
@@ -793,14 +803,14 @@ public final class BatchTest {
         Due.is("status() stays", x.status(), 3);
     }
 
-    private static void tellsAll(Chandlery x, int batch, int... due) {
+    private static void tellsAll(Counted x, int batch, int... due) {
         for (int what = 0; what < due.length; what++) {
             Due.is("told(" + batch + ", " + what + ")", x.told(batch, what), due[what]);
         }
     }
 
     private static void promise37Loss() {
-        Chandlery x = Shop.full();
+        Counted x = Shop.full();
         int soap = Shop.cut(x, Shop.SOAP, 100f, 1, 0);
         x.day(10);
         Due.is("LOSS is 2 at first", x.piece(soap, 0), 980);
@@ -821,7 +831,7 @@ public final class BatchTest {
     }
 
     private static void promise39Check() {
-        Chandlery x = Shop.full();
+        Counted x = Shop.full();
         Due.is("check without a BATCH", x.check(1, 0, 0, 0), -1);
         int soap = Shop.open(x, Shop.SOAP, 10f);
         x.weigh(soap, 60, 1f);

@@ -21,7 +21,7 @@ public final class GoodsTest {
     }
 
     private static void promise1NewObject() {
-        Chandlery x = new Chandlery();
+        Counted x = new Counted();
         Due.is("status()", x.status(), 0);
         for (int what = 0; what <= 11; what++) {
             Due.is("count(" + what + ") of a new one", x.count(what), 0);
@@ -37,7 +37,7 @@ public final class GoodsTest {
     }
 
     private static void promise2Day() {
-        Chandlery x = new Chandlery();
+        Counted x = new Counted();
         Due.refused("day(0)", x, x.day(0), 3);
         Due.refused("day(-1)", x, x.day(-1), 3);
         Due.refused("day(1001)", x, x.day(1001), 3);
@@ -57,7 +57,7 @@ public final class GoodsTest {
     }
 
     private static void promise3Fat() {
-        Chandlery x = new Chandlery();
+        Counted x = new Counted();
         Due.refused("fat(-1)", x, x.fat(-1), 3);
         Due.refused("fat(6)", x, x.fat(6), 3);
         for (int i = 0; i < 60; i++) {
@@ -78,7 +78,7 @@ public final class GoodsTest {
     }
 
     private static void promise4Row() {
-        Chandlery x = new Chandlery();
+        Counted x = new Counted();
         Due.denied("row(0, 0, 1) without a FAT", x, x.row(0, 0, 1), 1);
         x.fat(5);
         Due.denied("row(-1, ..)", x, x.row(-1, 0, 1), 1);
@@ -104,7 +104,7 @@ public final class GoodsTest {
     }
 
     private static void promise5Tear() {
-        Chandlery x = new Chandlery();
+        Counted x = new Counted();
         Due.denied("tear(0) without a FAT", x, x.tear(0), 1);
         x.fat(2);
         x.fat(0);
@@ -127,7 +127,7 @@ public final class GoodsTest {
     }
 
     private static void promise6Scale() {
-        Chandlery x = new Chandlery();
+        Counted x = new Counted();
         Due.refused("day(0)", x, x.day(0), 3);
         x.scale(false);
         Due.is("status() after scale(false)", x.status(), 0);
@@ -143,7 +143,7 @@ public final class GoodsTest {
     }
 
     private static void promise7Recipe() {
-        Chandlery x = new Chandlery();
+        Counted x = new Counted();
         Due.refused("recipe(-1)", x, x.recipe(-1), 3);
         Due.refused("recipe(51)", x, x.recipe(51), 3);
         for (int i = 0; i < 100; i++) {
@@ -161,7 +161,7 @@ public final class GoodsTest {
     }
 
     private static void promise8Part() {
-        Chandlery x = new Chandlery();
+        Counted x = new Counted();
         for (int i = 0; i < 10; i++) {
             x.fat(1);
         }
@@ -194,7 +194,7 @@ public final class GoodsTest {
     }
 
     private static void promise9Lye() {
-        Chandlery x = new Chandlery();
+        Counted x = new Counted();
         x.fat(1);
         x.fat(1);
         x.fat(0);
@@ -231,7 +231,7 @@ public final class GoodsTest {
     }
 
     private static void mostLyeOfAll() {
-        Chandlery x = new Chandlery();
+        Counted x = new Counted();
         x.recipe(0);
         for (int fat = 0; fat < 8; fat++) {
             x.fat(1);
@@ -242,7 +242,7 @@ public final class GoodsTest {
     }
 
     private static void promise10Lot() {
-        Chandlery x = new Chandlery();
+        Counted x = new Counted();
         x.fat(1);
         Due.refused("lot(1, ..)", x, x.lot(1, 1f, 1, 1), 1);
         Due.refused("lot(-1, ..)", x, x.lot(-1, 1f, 1, 1), 1);
@@ -271,7 +271,7 @@ public final class GoodsTest {
     }
 
     private static void promise10Reading() {
-        Chandlery x = new Chandlery();
+        Counted x = new Counted();
         Due.refused("0.0999 g", x, x.lot(60, 0.0999f, 1, 1), 3);
         Due.done("0.1 g", x, x.lot(60, 0.1f, 1, 1), 1);
         Due.is("left(1, 1)", x.left(1, 1), 1);
@@ -303,9 +303,9 @@ public final class GoodsTest {
     }
 
     private static void promise10Room() {
-        Chandlery x = new Chandlery();
+        Counted x = new Counted();
         for (int i = 1; i <= 400; i++) {
-            Due.done("lot", x, x.lot(60, i / 10f + 0.05f, i, 1000), i);
+            Due.is("lot", x.lot(60, i / 10f + 0.05f, i, 1000), i);
         }
         Due.refused("a 401st LOT", x, x.lot(60, 1f, 1, 1), 8);
         Due.refused("a 401st LOT: 3 ahead of 8", x, x.lot(60, 0f, 1, 1), 3);
@@ -317,7 +317,7 @@ public final class GoodsTest {
     }
 
     private static void promise11Spill() {
-        Chandlery x = Shop.full();
+        Counted x = Shop.full();
         Due.refused("spill(2, ..)", x, x.spill(2, 1f), 1);
         Due.refused("spill(-1, ..)", x, x.spill(-1, 1f), 1);
         Due.refused("spill(61, 0): 1 ahead of 3", x, x.spill(61, 0f), 1);
@@ -345,7 +345,7 @@ public final class GoodsTest {
     }
 
     private static void promise11Costs() {
-        Chandlery x = new Chandlery();
+        Counted x = new Counted();
         x.fat(1);
         x.fat(1);
         x.lot(0, 1f, 10, 0);
@@ -370,7 +370,7 @@ public final class GoodsTest {
     }
 
     private static void promise34Left() {
-        Chandlery x = new Chandlery();
+        Counted x = new Counted();
         x.fat(1);
         x.day(7);
         x.lot(60, 2f, 30, 3);
@@ -405,7 +405,7 @@ public final class GoodsTest {
     }
 
     private static void promise35Stock() {
-        Chandlery x = Shop.full();
+        Counted x = Shop.full();
         Due.is("stock(0)", x.stock(0), 1000000);
         Due.is("stock(2)", x.stock(2), -1);
         Due.is("stock(-1)", x.stock(-1), -1);

@@ -1,3 +1,5 @@
+import java.util.List;
+
 /** Promises 36, 38, 40 and 41: what is counted, STATUS, and what is kept. */
 public final class KeepTest {
     public static void main(String[] args) {
@@ -11,7 +13,7 @@ public final class KeepTest {
     }
 
     private static void promise36Count() {
-        Chandlery x = Shop.full();
+        Counted x = Shop.full();
         x.day(4);
         x.trial(1, 1);
         x.recipe(1);
@@ -42,7 +44,7 @@ public final class KeepTest {
     }
 
     private static void promise38Status() {
-        Chandlery x = Shop.full();
+        Counted x = Shop.full();
         int[] due = {1, 2, 3, 4, 5, 6, 7, 8};
         int soap = Shop.cut(x, Shop.SOAP, 1f, 1, 9);
         for (int i = 0; i < 7; i++) {
@@ -85,7 +87,7 @@ public final class KeepTest {
     }
 
     private static void promise40Image() {
-        Chandlery x = new Chandlery();
+        Counted x = new Counted();
         x.day(5);
         Due.refused("day(0)", x, x.day(0), 3);
         x.image();
@@ -101,7 +103,7 @@ public final class KeepTest {
     }
 
     private static void promise41Back() {
-        Chandlery x = new Chandlery();
+        Counted x = new Counted();
         Due.denied("back() without an image", x, x.back(), 2);
         x.day(1);
         Due.denied("back() without an image", x, x.back(), 2);
@@ -115,42 +117,53 @@ public final class KeepTest {
             Due.is("count(0)", x.count(0), 1);
             Due.is("count(1)", x.count(1), 0);
         }
-        Chandlery other = new Chandlery();
+        Counted other = new Counted();
         Due.denied("another object has kept nothing", other, other.back(), 2);
     }
 
     private static void promise41AllIsBack() {
-        Chandlery x = busy();
-        String before = everything(x);
-        x.image();
-        Due.is("image() changes nothing", everything(x).equals(before), true);
-        changeAll(x);
-        String after = everything(x);
+        List<String> before = Told.all(x -> {
+            busy(x);
+            x.image();
+        });
+        List<String> after = Told.all(x -> {
+            busy(x);
+            x.image();
+            changeAll(x);
+        });
         Due.is("all was changed", after.equals(before), false);
-        Due.done("back()", x, x.back());
-        same("back()", everything(x), before);
-        changeAll(x);
-        same("the same acts again", everything(x), after);
-        x.back();
-        same("back() again", everything(x), before);
-        Due.refused("the SCALE is broken again", x, x.spill(0, 1f), 4);
-        Due.done("a ROW that was torn is there again", x, x.tear(1));
-        x.image();
-        x.scale(true);
-        x.back();
-        Due.denied("a ROW that was torn ahead is missing", x, x.tear(1), 5);
+        Due.same("back()", Told.all(KeepTest::thereAndBack), before);
+        Due.same("back() and the same acts again", Told.all(x -> {
+            thereAndBack(x);
+            changeAll(x);
+        }), after);
+        Due.same("there and back a second time", Told.all(x -> {
+            thereAndBack(x);
+            changeAll(x);
+            x.back();
+        }), before);
+        Due.same("kept anew", Told.all(x -> {
+            busy(x);
+            changeAll(x);
+            x.image();
+            x.back();
+        }), Told.all(x -> {
+            busy(x);
+            changeAll(x);
+            x.image();
+        }));
     }
 
-    private static void same(String what, String got, String want) {
-        Due.is(what, got.equals(want), true);
-        if (!got.equals(want)) {
-            System.out.println(got + "\n" + want);
-        }
+    private static void thereAndBack(Counted x) {
+        busy(x);
+        x.image();
+        changeAll(x);
+        x.back();
     }
 
     /** Something of every sort, and a broken SCALE. */
-    private static Chandlery busy() {
-        Chandlery x = Shop.full();
+    private static void busy(Counted x) {
+        Shop.fill(x);
         x.part(0, 0, 5);
         Shop.open(x, Shop.SOAP, 10f);
         x.weigh(1, 60, 3f);
@@ -169,10 +182,9 @@ public final class KeepTest {
         x.mould(30);
         x.loss(4);
         x.scale(false);
-        return x;
     }
 
-    private static void changeAll(Chandlery x) {
+    private static void changeAll(Counted x) {
         x.scale(true);
         x.day(9);
         x.row(0, 0, 1200);
@@ -205,43 +217,9 @@ public final class KeepTest {
         x.loss(5);
     }
 
-    /** All that can be told of an object. */
-    private static String everything(Chandlery x) {
-        StringBuilder all = new StringBuilder();
-        for (int what = 0; what <= 12; what++) {
-            all.append(x.count(what)).append(' ');
-        }
-        for (int recipe = 0; recipe <= x.count(2); recipe++) {
-            all.append("R").append(x.lye(recipe, 100000, 300)).append(' ');
-        }
-        for (int lot = 1; lot <= x.count(3); lot++) {
-            for (int what = 0; what < 5; what++) {
-                all.append("L").append(x.left(lot, what)).append(' ');
-            }
-        }
-        for (int batch = 1; batch <= x.count(4); batch++) {
-            for (int what = 0; what < 11; what++) {
-                all.append("B").append(x.told(batch, what)).append(' ');
-            }
-            all.append(x.even(batch, 0)).append(' ').append(x.even(batch, 1)).append(' ');
-            all.append(x.ready(batch)).append(' ').append(x.piece(batch, 1)).append(' ');
-            all.append(x.burns(batch, 2)).append(' ').append(x.more(batch, 0)).append(' ');
-        }
-        for (int place = 0; place < 40; place++) {
-            all.append("P").append(x.place(place)).append(' ');
-        }
-        for (int weight = 0; weight < 20; weight++) {
-            all.append("H").append(x.hours(2, 3, weight)).append(' ');
-        }
-        for (int good = 0; good <= 60; good++) {
-            all.append("S").append(x.stock(good)).append(' ');
-        }
-        return all.append(x.save(0, 0)).append(' ').append(x.save(0, 1)).toString();
-    }
-
     /** What comes behind an image leaves no trace in what comes behind back(). */
     private static void promise41Grown() {
-        Chandlery x = Shop.full();
+        Counted x = Shop.full();
         x.image();
         x.recipe(33);
         x.part(1, 0, 7);

@@ -4,10 +4,13 @@ import java.util.HashMap;
 import java.util.Map;
 import java.util.Random;
 
-/** Runs of 512 calls by chance (the same in each run of this test), compared with the Oracle. */
+/**
+ * Runs of 512 calls by chance (the same in each run of this test), compared with the Oracle. Some ask for
+ * STATUS behind each call, some for all else at their end, some for nothing but what chance brings.
+ */
 public final class RandomRunsTest {
-    private static final int RUNS = 600;
-    private static final int CALLS = 512;
+    private static final int RUNS = 900;
+    private static final int CALLS_AHEAD_OF_TELLING = 340;
     private static final String[] SETTING_UP = {
         "fat", "row", "row", "recipe", "part", "part", "lot", "lot", "lot", "trial", "hour", "batch", "weigh", "mould",
     };
@@ -25,19 +28,23 @@ public final class RandomRunsTest {
     };
 
     private final Random chance;
-    private final Chandlery x = new Chandlery();
+    private final Counted x = new Counted();
     private final Oracle oracle = new Oracle();
     private final Map<String, Method> face = new HashMap<>();
     private final Map<String, Method> wanted = new HashMap<>();
     private final StringBuilder calls = new StringBuilder();
     private final int oddness;
+    private final boolean asksStatus;
+    private final boolean tellsAtItsEnd;
     private boolean differs = false;
 
     private RandomRunsTest(int seed) {
         chance = new Random(seed);
         // Some runs are nearly without wrong arguments, so that they come far.
-        oddness = 1 + seed % 4 * 5;
-        for (Method m : Chandlery.class.getMethods()) {
+        oddness = 1 + seed / 3 % 4 * 5;
+        asksStatus = seed % 3 == 0;
+        tellsAtItsEnd = seed % 3 == 1;
+        for (Method m : Counted.class.getDeclaredMethods()) {
             face.put(m.getName(), m);
         }
         for (Method m : Oracle.class.getDeclaredMethods()) {
@@ -55,7 +62,8 @@ public final class RandomRunsTest {
     }
 
     private void run() throws ReflectiveOperationException {
-        for (int i = 0; i < CALLS && !differs; i++) {
+        int leaves = tellsAtItsEnd ? Counted.MOST_CALLS - CALLS_AHEAD_OF_TELLING : 1;
+        for (int i = 0; x.callsLeft() > leaves && !differs; i++) {
             String[] names = i < 60 ? SETTING_UP : AT_WORK;
             String name = names[chance.nextInt(names.length)];
             if (name.equals("back") && chance.nextInt(4) > 0 || name.equals("tear") && chance.nextInt(4) > 0) {
@@ -63,9 +71,12 @@ public final class RandomRunsTest {
             }
             // A broken SCALE is mended soon, or little more would happen.
             call(name, name.equals("scale") ? new Object[] {chance.nextInt(3) > 0} : argumentsOf(name));
+            if (asksStatus) {
+                call("status");
+            }
         }
-        if (!differs) {
-            tellAll();
+        if (tellsAtItsEnd) {
+            tellMuch();
         }
     }
 
@@ -74,7 +85,6 @@ public final class RandomRunsTest {
         Object due = wanted.get(name).invoke(oracle, arguments);
         calls.append(name).append(Arrays.toString(arguments)).append(" = ").append(got).append('\n');
         compare(name + Arrays.toString(arguments), number(got), number(due));
-        compare("status() after " + name + Arrays.toString(arguments), x.status(), oracle.status());
     }
 
     private void compare(String what, long got, long due) {
@@ -92,27 +102,24 @@ public final class RandomRunsTest {
         return answer instanceof Boolean b ? (b ? 1 : 0) : ((Number) answer).longValue();
     }
 
-    private void tellAll() throws ReflectiveOperationException {
-        for (int what = -1; what <= 13; what++) {
-            call("count", what);
-            for (int lot = 0; lot <= x.count(3) + 1; lot++) {
-                call("left", lot, what);
+    /** As much of all that can be told as there are calls left, by chance. */
+    private void tellMuch() throws ReflectiveOperationException {
+        while (x.callsLeft() > 0 && !differs) {
+            int what = chance.nextInt(15) - 1;
+            int batch = chance.nextInt((int) oracle.count(4) + 2);
+            switch (chance.nextInt(12)) {
+                case 0 -> call("count", what);
+                case 1 -> call("left", chance.nextInt((int) oracle.count(3) + 2), what);
+                case 2, 3 -> call("told", batch, what);
+                case 4 -> call("even", batch, chance.nextInt(5) - 1);
+                case 5 -> call("piece", batch, what);
+                case 6 -> call("burns", batch, what);
+                case 7 -> call("more", batch, what);
+                case 8 -> call("ready", batch);
+                case 9 -> call("place", chance.nextInt(42) - 1);
+                case 10 -> call("save", chance.nextInt(53) - 1, chance.nextInt(2));
+                default -> call("hours", chance.nextInt(3), 1 + chance.nextInt(3), chance.nextInt(2000));
             }
-            for (int batch = 0; batch <= x.count(4) + 1; batch++) {
-                call("told", batch, what);
-                call("even", batch, what);
-                call("piece", batch, what);
-                call("burns", batch, what);
-                call("more", batch, what);
-                call("ready", batch);
-            }
-        }
-        for (int place = -1; place <= 40; place++) {
-            call("place", place);
-        }
-        for (int spare = -1; spare <= 51; spare++) {
-            call("save", spare, 0);
-            call("save", spare, 1);
         }
     }
 
@@ -131,7 +138,7 @@ public final class RandomRunsTest {
     }
 
     private int aFat() {
-        return within(0, Math.min(8, (int) x.count(1) - 1));
+        return within(0, Math.min(8, (int) oracle.count(1) - 1));
     }
 
     private int aGood() {
@@ -139,21 +146,21 @@ public final class RandomRunsTest {
     }
 
     private int aRecipe() {
-        return within(0, Math.min(5, (int) x.count(2) - 1));
+        return within(0, Math.min(5, (int) oracle.count(2) - 1));
     }
 
     /** A BATCH, and if there is one soon found, one of a STATE. */
     private int aBatch(int state) {
-        int batch = within(1, (int) x.count(4));
-        for (int i = 0; i < 30 && x.told(batch, 1) != state && !isOdd(); i++) {
-            batch = within(1, (int) x.count(4));
+        int batch = within(1, (int) oracle.count(4));
+        for (int i = 0; i < 30 && oracle.told(batch, 1) != state && !isOdd(); i++) {
+            batch = within(1, (int) oracle.count(4));
         }
         return batch;
     }
 
     private int aPlace(int what) {
         int place = within(0, 39);
-        for (int i = 0; i < 50 && x.place(place) != what && !isOdd(); i++) {
+        for (int i = 0; i < 50 && oracle.place(place) != what && !isOdd(); i++) {
             place = within(0, 39);
         }
         return place;
@@ -190,7 +197,7 @@ public final class RandomRunsTest {
     }
 
     private Object[] trialArguments(String name) {
-        int trial = within(1, (int) x.count(5));
+        int trial = within(1, (int) oracle.count(5));
         switch (name) {
             case "trial": return new Object[] {within(0, 2), within(1, 3)};
             case "hour": return new Object[] {trial, gramsTo(chance.nextInt(8) == 0 ? 100000 : 100)};
@@ -201,11 +208,11 @@ public final class RandomRunsTest {
 
     private Object[] goodsOrBatches(String name) {
         int good = aGood();
-        double there = Math.max(1, Math.min(1000000, x.stock(good)) / 10.0);
+        double there = Math.max(1, Math.min(1000000, oracle.stock(good)) / 10.0);
         switch (name) {
             case "lot": return new Object[] {good, gramsTo(100000), within(0, 1000000), within(1, 1000)};
             case "spill": return new Object[] {good, gramsTo(there)};
-            case "left": return new Object[] {within(1, (int) x.count(3)), within(0, 4)};
+            case "left": return new Object[] {within(1, (int) oracle.count(3)), within(0, 4)};
             case "stock": return new Object[] {good};
             case "dip": return new Object[] {within(0, 2000), within(0, 50), within(0, 60000)};
             case "save": return new Object[] {within(0, 50), within(0, 1)};
@@ -217,7 +224,7 @@ public final class RandomRunsTest {
 
     private Object[] batchArguments(String name) {
         int cut = aBatch(3);
-        int any = within(1, (int) x.count(4));
+        int any = within(1, (int) oracle.count(4));
         switch (name) {
             case "mix": return new Object[] {aBatch(0)};
             case "pour": return new Object[] {aBatch(1), aPlace(0)};
@@ -238,9 +245,9 @@ public final class RandomRunsTest {
     /** For check(): mostly as it is, at times with one number that is another. */
     private Object[] checkArguments(int any) {
         int other = chance.nextInt(6);
-        int weight = x.told(any, 2) + (other == 0 ? 1 : 0);
-        long n = x.even(any, 1) + (other == 1 ? 1 : 0);
-        long p = x.even(any, 1) - x.even(any, 0) + (other == 2 ? -1 : 0);
+        int weight = oracle.told(any, 2) + (other == 0 ? 1 : 0);
+        long n = oracle.even(any, 1) + (other == 1 ? 1 : 0);
+        long p = oracle.even(any, 1) - oracle.even(any, 0) + (other == 2 ? -1 : 0);
         return new Object[] {any, weight, n, p};
     }
 }

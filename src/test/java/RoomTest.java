@@ -32,7 +32,7 @@ public final class RoomTest {
     }
 
     private static void trialsAndImages() {
-        Chandlery x = new Chandlery();
+        Counted x = new Counted();
         for (int i = 0; i < 100; i++) {
             x.trial(1, 1);
             x.image();
@@ -44,7 +44,7 @@ public final class RoomTest {
     }
 
     private static void batchesAndImages() {
-        Chandlery x = Shop.full();
+        Counted x = Shop.full();
         for (int i = 0; i < 125; i++) {
             x.batch(Shop.SOAP, 0);
             x.weigh(i, 0, 1f);
@@ -55,7 +55,7 @@ public final class RoomTest {
 
     private static void objectsAlone() {
         for (int i = 0; i < 512; i++) {
-            new Chandlery().status();
+            new Counted().status();
         }
     }
 }

@@ -15,7 +15,7 @@ public final class TrialTest {
     }
 
     private static void promise21Trial() {
-        Chandlery x = new Chandlery();
+        Counted x = new Counted();
         Due.refused("trial(-1, 1)", x, x.trial(-1, 1), 3);
         Due.refused("trial(10, 1)", x, x.trial(10, 1), 3);
         Due.refused("trial(0, 0)", x, x.trial(0, 0), 3);
@@ -32,7 +32,7 @@ public final class TrialTest {
     }
 
     private static void promise22Hour() {
-        Chandlery x = new Chandlery();
+        Counted x = new Counted();
         Due.refused("hour without a TRIAL", x, x.hour(1, 1f), 1);
         x.trial(1, 1);
         Due.refused("hour(0, ..)", x, x.hour(0, 1f), 1);
@@ -61,7 +61,7 @@ public final class TrialTest {
     }
 
     private static void promise22Room() {
-        Chandlery x = new Chandlery();
+        Counted x = new Counted();
         x.trial(1, 1);
         x.trial(1, 2);
         for (int i = 1; i <= 200; i++) {
@@ -78,7 +78,7 @@ public final class TrialTest {
     }
 
     private static void promise23Torn() {
-        Chandlery x = new Chandlery();
+        Counted x = new Counted();
         Due.denied("torn without a TRIAL", x, x.torn(1, 0), 1);
         x.trial(1, 1);
         Due.done("torn(1, 0) of none", x, x.torn(1, 0));
@@ -106,7 +106,7 @@ public final class TrialTest {
     }
 
     private static void promise24Hours() {
-        Chandlery x = new Chandlery();
+        Counted x = new Counted();
         Due.is("HOURS without a TRIAL", x.hours(1, 1, 1), -1);
         x.trial(1, 7);
         Due.is("HOURS of a TRIAL that was not read", x.hours(1, 7, 1000000), 0);
@@ -134,7 +134,7 @@ public final class TrialTest {
     }
 
     private static void promise24Several() {
-        Chandlery x = new Chandlery();
+        Counted x = new Counted();
         x.trial(3, 5);
         x.trial(3, 6);
         x.trial(3, 5);
@@ -161,7 +161,7 @@ public final class TrialTest {
     }
 
     private static void promise25Burns() {
-        Chandlery x = Shop.full();
+        Counted x = Shop.full();
         Due.is("burns without a BATCH", x.burns(1, 1), -1);
         x.trial(1, 7);
         x.hour(1, 0.2f);
@@ -194,7 +194,7 @@ public final class TrialTest {
     }
 
     private static void promise25Lightest() {
-        Chandlery x = Shop.full();
+        Counted x = Shop.full();
         x.trial(0, 1);
         for (int i = 0; i < 10; i++) {
             x.hour(1, 0.1f);
@@ -222,7 +222,7 @@ public final class TrialTest {
     }
 
     private static void promise26Dip() {
-        Chandlery x = new Chandlery();
+        Counted x = new Counted();
         int most = 1000000;
         int[][] bad = {{-1, 0, 0}, {most + 1, 0, 0}, {1, -1, 0}, {1, most + 1, 0}, {1, 0, -1}, {1, 0, most + 1}};
         for (int[] b : bad) {
@@ -246,9 +246,9 @@ public final class TrialTest {
     }
 
     private static void promise26AllLayers() {
-        Chandlery x = new Chandlery();
         for (int first = 0; first <= 12; first++) {
             for (int less = 0; less <= 13; less++) {
+                Counted x = new Counted();
                 for (int weight = 0; weight <= 85; weight++) {
                     Due.is("dip(" + first + ", " + less + ", " + weight + ")", x.dip(first, less, weight),
                             layerByLayer(first, less, weight));
