@@ -328,6 +328,12 @@ public final class BatchEdgeTest {
         }
         Edge late = at.then("the last day", x -> Shop.wait(x, 30_000));
         late.tells("left(1, 3)", x -> x.left(1, 3), 0);
+        Edge two = at.then("another LOT, of STRENGTH 1,000", x -> x.lot(LYE, 100f, 0, 1000));
+        two.after("weigh of both", x -> x.weigh(1, LYE, 100.1f), "N - P", x -> x.even(1, 0), -(20L * 1000 + 10_000));
+        two.after("weigh twice", x -> {
+            x.weigh(1, LYE, 100f);
+            x.weigh(1, LYE, 0.1f);
+        }, "N - P", x -> x.even(1, 0), -(20L * 1000 + 10_000));
     }
 
     // ---- promise 14
@@ -673,6 +679,12 @@ public final class BatchEdgeTest {
         both.tells("N - P", x -> x.even(2, 0), -3_500_000);
         both.tells("count(8)", x -> x.count(8), 2500);
         both.refused("with(2, 1) again", x -> x.with(2, 1), 2);
+        Edge lye = openOff(Shop.SOAP).then("LYE in both", x -> {
+            Shop.open(x, Shop.SOAP, 50f);
+            x.weigh(2, LYE, 1f);
+            x.with(2, 1);
+        });
+        lye.tells("check(2, 2510, N, P)", x -> x.check(2, 2510, 1_500_000, 5_050_000), 0);
         Edge empty = filled().then("two empty ones", x -> {
             x.batch(Shop.SOAP, 0);
             x.batch(Shop.TWICE, 0);
@@ -746,6 +758,13 @@ public final class BatchEdgeTest {
             gone.tells("told(1, 7)", x -> x.told(1, 7), 0);
             gone.refused("sell 1", x -> x.sell(1, 1, 1), 2);
         }
+        Edge twice = cut(Shop.PLAIN).then("sold twice", x -> {
+            x.sell(1, 1, 5);
+            x.sell(1, 1, 1_000_000);
+        });
+        twice.tells("told(1, 10)", x -> x.told(1, 10), 1_000_005);
+        twice.tells("count(10)", x -> x.count(10), 1_000_005);
+        twice.tells("told(1, 7)", x -> x.told(1, 7), 8);
         Edge most = poured(Shop.PLAIN).then("500 pieces", x -> x.cut(1, 500, 0));
         most.done("sell 500", x -> x.sell(1, 500, 1), 0);
         most.refused("sell 501", x -> x.sell(1, 501, 1), 6);

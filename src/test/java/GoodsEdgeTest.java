@@ -578,5 +578,15 @@ public final class GoodsEdgeTest {
         first.tells("left(1, 1)", x -> x.left(1, 1), 2);
         Edge most = fresh().then("1,000,000 for 1,000,000", x -> x.lot(LYE, 100000f, 1_000_000, 1));
         most.done("spill 999,999", x -> x.spill(LYE, 99999.9f), 999_999);
+        Edge last = fresh().then("1 for 1,000,000", x -> x.lot(LYE, 0.1f, 1_000_000, 1));
+        last.done("spill 1", x -> x.spill(LYE, 0.1f), 1_000_000);
+        last.after("spill 1", x -> x.spill(LYE, 0.1f), "left(1, 2)", x -> x.left(1, 2), 0);
+        Edge over = fresh().then("3 for 1,000,000, 2 of them spilt", x -> {
+            x.lot(LYE, 0.3f, 1_000_000, 1);
+            x.spill(LYE, 0.1f);
+            x.spill(LYE, 0.1f);
+        });
+        over.tells("left(1, 2)", x -> x.left(1, 2), 333_334);
+        over.done("the last bears all that is left", x -> x.spill(LYE, 0.1f), 333_334);
     }
 }

@@ -12,6 +12,7 @@ public final class KeepEdgeTest {
         promise40OfAllThatIs();
         promise41NothingKept();
         promise41StaysKept();
+        promise41Within();
         promise41Numbers();
         promise41Full();
         Due.end();
@@ -220,6 +221,43 @@ public final class KeepEdgeTest {
             x.back();
             x.part(0, 0, 1);
         }, "NEED 1,000", x -> x.lye(0, 1000, 1000), 90);
+    }
+
+    /** A RECIPE loses the FATS, a BATCH the GOODS that came behind the image. */
+    private static void promise41Within() {
+        Edge recipe = filled().then("kept with a FAT in a RECIPE, 7 more behind", x -> {
+            x.part(0, 0, 1);
+            x.image();
+            x.part(0, 1, 1);
+            for (int fat = 2; fat < 8; fat++) {
+                x.fat(0);
+                x.part(0, fat, 1);
+            }
+            x.back();
+        });
+        recipe.tells("lye: no FAT without NEED", x -> x.lye(0, 1000, 1000), 90);
+        recipe.done("part(0, 1, 1)", x -> x.part(0, 1, 1), 2);
+        Edge again = recipe.then("8 FATS again", x -> {
+            for (int fat = 2; fat <= 9; fat++) {
+                x.fat(0);
+            }
+            for (int fat = 1; fat < 8; fat++) {
+                x.part(0, fat, 1);
+            }
+        });
+        again.refused("a ninth", x -> x.part(0, 8, 1), 8);
+        again.done("the eighth again", x -> x.part(0, 7, 1), 9);
+        Edge batch = filled().then("kept with LYE in a SOAP, more behind", x -> {
+            Shop.open(x, Shop.SOAP, 100f);
+            x.weigh(1, LYE, 1f);
+            x.image();
+            x.weigh(1, LYE, 10f);
+            x.weigh(1, 0, 10f);
+            x.back();
+        });
+        batch.tells("check", x -> x.check(1, 1010, 1_000_000, 50_000), 0);
+        batch.tells("told(1, 3)", x -> x.told(1, 3), 1010);
+        batch.tells("stock(60)", x -> x.stock(LYE), 1_000_000 - 10);
     }
 
     /** What came behind the image is no more, and its numbers are told again. */

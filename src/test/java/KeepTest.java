@@ -198,6 +198,7 @@ public final class KeepTest {
         x.lot(60, 5.5f, 66, 77);
         x.spill(0, 12.5f);
         x.weigh(1, 0, 3f);
+        x.weigh(1, 60, 2f);
         x.mix(1);
         x.with(2, 3);
         x.cut(4, 6, 3);

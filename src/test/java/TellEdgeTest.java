@@ -27,6 +27,7 @@ public final class TellEdgeTest {
         promise32Places();
         promise33Others();
         promise33NoneYet();
+        promise33Recipe();
         promise34Others();
         promise34Strength();
         promise35NoSuch();
@@ -315,6 +316,22 @@ public final class TellEdgeTest {
             }
         }
         pair().then("put together", x -> x.with(1, 2)).tells("save(0, 0)", x -> x.save(0, 0), -1);
+        Edge open = filled().then("two OPEN SOAPS", x -> {
+            Shop.open(x, Shop.SOAP, 1f);
+            Shop.open(x, Shop.SOAP, 1f);
+        });
+        Edge poured = filled().then("two POURED SOAPS", x -> {
+            Shop.poured(x, Shop.SOAP, 1f);
+            Shop.poured(x, Shop.SOAP, 1f);
+        });
+        Edge cut = filled().then("two CUT SOAPS", x -> {
+            Shop.cut(x, Shop.SOAP, 1f, 1, 1);
+            Shop.cut(x, Shop.SOAP, 1f, 1, 1);
+        });
+        for (Edge at : new Edge[] {open, poured, cut}) {
+            at.tells("save(0, 0)", x -> x.save(0, 0), -1);
+            at.tells("save(0, 1)", x -> x.save(0, 1), -1);
+        }
     }
 
     // "which can be put together (1,000,000 at most)"
@@ -500,6 +517,12 @@ public final class TellEdgeTest {
             x.boil(1);
         });
         boiled.tells("since it was CUT, not boiled", x -> x.piece(1, 0), 980);
+        Edge later = filled().then("CUT on day 10", x -> {
+            x.day(10);
+            Shop.cut(x, Shop.SOAP, 100f, 1, 1);
+        });
+        later.tells("piece(1, 0) as it is CUT", x -> x.piece(1, 0), 1000);
+        later.then("day 11", x -> x.day(1)).tells("piece(1, 0)", x -> x.piece(1, 0), 998);
     }
 
     // ---- promise 32
@@ -557,6 +580,20 @@ public final class TellEdgeTest {
                 }
             }
         }
+    }
+
+    // "4 RECIPE"
+    private static void promise33Recipe() {
+        Edge most = Edge.at("100 RECIPES", x -> {
+            for (int i = 0; i < 100; i++) {
+                x.recipe(0);
+            }
+            x.batch(Shop.SOAP, 99);
+            x.batch(Shop.SOAP, 1);
+        });
+        most.tells("told(1, 4)", x -> x.told(1, 4), 99);
+        most.tells("told(2, 4)", x -> x.told(2, 4), 1);
+        most.then("put together", x -> x.with(1, 2)).tells("told(1, 4)", x -> x.told(1, 4), 99);
     }
 
     // ---- promise 34
