@@ -154,6 +154,7 @@ public final class BatchEdgeTest {
             open(Shop.SOAP).refused("weigh(" + batch + ", 0, 1)", x -> x.weigh(batch, 0, 1f), 1);
             open(Shop.SOAP).refused("weigh(" + batch + ", 0, 0): 1 ahead of 3", x -> x.weigh(batch, 0, 0f), 1);
             open(Shop.SOAP).refused("weigh(" + batch + ", 0, NaN): 1 ahead of 4", x -> x.weigh(batch, 0, Float.NaN), 1);
+            open(Shop.SOAP).refused("weigh(" + batch + ", 1, 1): 1 ahead of 5", x -> x.weigh(batch, 1, 1f), 1);
             open(Shop.SOAP).refused("weigh(" + batch + ", 0, all): 1 ahead of 6", x -> x.weigh(batch, 0, 100000f), 1);
         }
         for (int good : new int[] {Integer.MIN_VALUE, -1, 2, 59, 61, Integer.MAX_VALUE}) {
