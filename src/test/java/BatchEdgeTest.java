@@ -186,6 +186,7 @@ public final class BatchEdgeTest {
         swallowed.refused("weigh into a GONE one, though OFF", x -> x.weigh(1, 0, 1f), 2);
     }
 
+    // "(a SOAP that is OFF: nor CUT)"
     private static void promise13OffAndCut() {
         for (int kind : SOAPS) {
             Edge mixed = openOff(kind).then("MIXED and OFF", x -> x.mix(1));

@@ -58,6 +58,7 @@ public final class KeepEdgeTest {
 
     // ---- promise 38
 
+    // "An act that is done sets it to 0": none was refused yet
     private static void promise38First() {
         Due.is("status() of a new object", new Counted().status(), 0);
     }
@@ -91,6 +92,7 @@ public final class KeepEdgeTest {
         return x;
     }
 
+    // "STATUS is the first that holds: 1 .. 8"; "An act that is done sets it to 0"
     private static void promise38EachStatus() {
         for (int first = 0; first <= 8; first++) {
             for (int second = 0; second <= 8; second++) {

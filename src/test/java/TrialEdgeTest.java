@@ -203,6 +203,7 @@ public final class TrialEdgeTest {
         trial(1).tells("WICK and WIDTH changed", x -> x.hours(7, 1, 5), -1);
     }
 
+    // "not above the most hours that any of its TRIALS was read for": a TRIAL that was not read
     private static void promise24NotRead() {
         trial().tells("HOURS of a TRIAL without hours", x -> x.hours(1, 7, MOST), 0);
         trial().tells("HOURS of a TRIAL without hours", x -> x.hours(1, 7, 0), 0);
@@ -276,6 +277,7 @@ public final class TrialEdgeTest {
         }
     }
 
+    // "with a WICK; NONE also for others"; "NONE without a TRIAL of them."
     private static void promise25Wick() {
         Edge at = burning(Shop.CANDLE);
         for (int wick : Bounds.outside(0, 9)) {
